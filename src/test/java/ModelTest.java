@@ -1,4 +1,5 @@
 import java.util.ArrayList;
+import java.util.Arrays;
 import java.util.Comparator;
 import java.util.List;
 import java.util.NoSuchElementException;
@@ -7,6 +8,8 @@ import java.util.NoSuchElementException;
 public final class ModelTest {
     private static final int RUNS = 300;
     private static final int CALLS = 512;
+    // How often set, move, cancel, row, first, pass come: mixed; filling up to 40; many passes.
+    private static final int[][] WEIGHTS = {{30, 8, 6, 24, 4, 8}, {50, 4, 2, 40, 2, 1}, {20, 10, 10, 20, 8, 30}};
 
     private record Item(boolean timer, int number, int clock, long key, long time, long gap, int often) { }
 
@@ -258,16 +261,26 @@ public final class ModelTest {
     }
 
     private static int small(Mixed m, int bound) {
-        return m.below(20) == 0 ? (int) m.pick(-1, bound, bound + 1, Integer.MIN_VALUE, Integer.MAX_VALUE) : m.below(bound);
+        if (m.below(20) == 0) {
+            return (int) m.pick(-1, bound, bound + 1, Integer.MIN_VALUE, Integer.MAX_VALUE);
+        }
+        return m.below(bound);
+    }
+
+    private static int timer(Mixed m, int set) {
+        return set == 0 || m.below(8) == 0 ? small(m, 5) : set - 1 - m.below(Math.min(set, 50));
+    }
+
+    private static long passTime(Mixed m, long now) {
+        return m.below(60) == 0 ? m.pick(1_000_000_000_000L, 1_000_000_000_001L, -1) : now + m.below(9) - 1;
     }
 
     private static String nextCall(Mixed m, Model model, int style) {
         int clock = small(m, 2);
         long now = model.nows[clock == 1 ? 1 : 0];
-        int timer = model.timers == 0 || m.below(8) == 0 ? small(m, 5) : model.timers - 1 - m.below(Math.min(model.timers, 50));
-        int[] weights = style == 0 ? new int[] {30, 8, 6, 24, 4, 8} : style == 1 ? new int[] {50, 4, 2, 40, 2, 1}
-                : new int[] {20, 10, 10, 20, 8, 30};
-        int roll = m.below(weights[0] + weights[1] + weights[2] + weights[3] + weights[4] + weights[5] + 30);
+        int timer = timer(m, model.timers);
+        int[] weights = WEIGHTS[style];
+        int roll = m.below(Arrays.stream(weights).sum() + 30);
         if ((roll -= weights[0]) < 0) {
             int often = m.below(3) == 0 ? small(m, 51) : m.below(4);
             long gap = m.below(20) == 0 ? m.pick(-1, 1_000_000_000L, 1_000_000_001L, Long.MAX_VALUE) : m.below(4);
@@ -286,8 +299,7 @@ public final class ModelTest {
             return "first " + (m.below(2) == 0);
         }
         if ((roll -= weights[5]) < 0) {
-            boolean far = m.below(60) == 0;
-            return "pass " + clock + " " + (far ? m.pick(1_000_000_000_000L, 1_000_000_000_001L, -1) : now + m.below(9) - 1);
+            return "pass " + clock + " " + passTime(m, now);
         }
         return rareCall(m, clock, timer, now);
     }
@@ -345,7 +357,7 @@ public final class ModelTest {
             Model model = new Model();
             Run run = new Run("seed " + seed);
             for (int i = 0; i < CALLS; i++) {
-                String call = nextCall(mixed, model, seed % 3);
+                String call = nextCall(mixed, model, seed % WEIGHTS.length);
                 run.due(call, answerOf(model, call));
                 if (i % 16 == 0 || call.startsWith("pass") && seed % 10 == 0) {
                     askAll(run, model);

@@ -95,8 +95,9 @@ public final class PromiseTest {
                 .due("set 0 3 7 3 3", 2).due("cancel -1", false).due("cancel 3", false)
                 .due("cancel -2147483648", false).due("cancel 2147483647", false).due("cancel 0", true)
                 .due("cancel 0", false).element("told 0 0").dueEach("told 1", 1, 2, 6, 2, 2)
-                .dueEach("told 2", 0, 3, 7, 3, 3).due("of 0", 2).due("of 2", 3).due("cancel 2", true).due("pass 0 50", 0)
-                .due("pass 1 6", 1).due("cancel 1", false).due("cancel 3", true).due("of 0", 0).due("set 0 0 0 0 0", 4);
+                .dueEach("told 2", 0, 3, 7, 3, 3).due("of 0", 2).due("of 2", 3).due("cancel 2", true)
+                .due("pass 0 50", 0).due("pass 1 6", 1).due("cancel 1", false).due("cancel 3", true)
+                .due("of 0", 0).due("set 0 0 0 0 0", 4);
     }
 
     private static void promise6Row() {
@@ -125,7 +126,8 @@ public final class PromiseTest {
                 .due("pass 0 5", 4).dueDone(0, 0, 1, 1, 4, 0).dueDone(1, 1, 0, 9, 5, 1).dueDone(2, 1, 1, 9, 5, 0)
                 .dueDone(3, 0, 0, 1, 5, 0).due("first true", false);
         new Run("7 rows ahead").due("row 9 5", 0).due("set 0 1 5 0 1", 0).due("set 0 1 4 0 0", 1).due("pass 0 5", 4)
-                .dueDone(0, 1, 1, 1, 4, 0).dueDone(1, 0, 0, 9, 5, 0).dueDone(2, 1, 0, 1, 5, 1).dueDone(3, 1, 2, 1, 5, 0);
+                .dueDone(0, 1, 1, 1, 4, 0).dueDone(1, 0, 0, 9, 5, 0).dueDone(2, 1, 0, 1, 5, 1)
+                .dueDone(3, 1, 2, 1, 5, 0);
     }
 
     private static void promise8Pass() {
@@ -305,6 +307,7 @@ public final class PromiseTest {
         new Run("19 now").dueEach("now", -1, -1).argument("now -1").argument("now 2").argument("now 2147483647")
                 .argument("now -2147483648").due("pass 0 0", 0).dueEach("now", 0, -1).due("pass 1 8", 0)
                 .dueEach("now", 0, 8).due("set 0 1 99 0 0", 0).due("row 1 98", 0).dueEach("now", 0, 8)
-                .due("pass 0 " + LAST_TIME, 2).dueEach("now", LAST_TIME, 8).argument("pass 1 7").dueEach("now", LAST_TIME, 8);
+                .due("pass 0 " + LAST_TIME, 2).dueEach("now", LAST_TIME, 8).argument("pass 1 7")
+                .dueEach("now", LAST_TIME, 8);
     }
 }

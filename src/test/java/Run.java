@@ -37,7 +37,7 @@ final class Run {
         return this;
     }
 
-    /** Each of the words in its turn: due("of", 1, 0, ..) asks of 0, of 1, .. */
+    /** The last argument counts from 0: dueEach("of", 3, 7) asks "of 0", due is 3, and "of 1", due is 7. */
     Run dueEach(String call, Object... wants) {
         for (int i = 0; i < wants.length; i++) {
             due(call + " " + i, wants[i]);
