@@ -7,7 +7,9 @@ import java.util.NoSuchElementException;
 /** Long runs of mixed calls, each answer compared with that of a second, slower reading of the document. */
 public final class ModelTest {
     private static final int RUNS = 300;
-    private static final int CALLS = 512;
+    // A run of all the calls that an object is used for, or one that leaves room to ask for everything at times.
+    private static final int MOST_CALLS = 512;
+    private static final int FEWER_CALLS = 352;
     // How often set, move, cancel, row, first, pass come: mixed; filling up to 40; many passes.
     private static final int[][] WEIGHTS = {{30, 8, 6, 24, 4, 8}, {50, 4, 2, 40, 2, 1}, {20, 10, 10, 20, 8, 30}};
 
@@ -351,18 +353,23 @@ public final class ModelTest {
         }
     }
 
+    private static void mixedRun(int seed, boolean asking) {
+        Mixed mixed = new Mixed(seed);
+        Model model = new Model();
+        Run run = new Run("seed " + seed);
+        int calls = asking ? FEWER_CALLS : MOST_CALLS;
+        for (int i = 0; i < calls; i++) {
+            String call = nextCall(mixed, model, seed % WEIGHTS.length);
+            run.due(call, answerOf(model, call));
+            if (asking && (i % 16 == 0 || call.startsWith("pass") && seed % 10 == 0)) {
+                askAll(run, model);
+            }
+        }
+    }
+
     public static void main(String[] args) {
         for (int seed = 1; seed <= RUNS; seed++) {
-            Mixed mixed = new Mixed(seed);
-            Model model = new Model();
-            Run run = new Run("seed " + seed);
-            for (int i = 0; i < CALLS; i++) {
-                String call = nextCall(mixed, model, seed % WEIGHTS.length);
-                run.due(call, answerOf(model, call));
-                if (i % 16 == 0 || call.startsWith("pass") && seed % 10 == 0) {
-                    askAll(run, model);
-                }
-            }
+            mixedRun(seed, seed % 2 == 0);
         }
         Run.end();
     }
