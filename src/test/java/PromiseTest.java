@@ -492,8 +492,9 @@ public final class PromiseTest {
         new Run("14 'IllegalArgument: nothing is KEPT there'").argumentEach("back %", -1, 0, 1, 2, 3, MIN, MAX)
                 .due("keep", 0).argumentEach("back %", -1, 1, 2, 3, MIN, MAX).due("back 0", 0).due("keep", 1)
                 .argumentEach("back %", -1, 2, 3).due("back 1", 0).due("keep", 2)
-                .argumentEach("back %", -1, 3, MIN, MAX).due("back 2", 0).due("forget", 2).argument("back 2").due("forget", 1).argument("back 1")
-                .due("forget", 0).argument("back 0").due("keep", 0).due("clear", 0).argument("back 0");
+                .argumentEach("back %", -1, 3, MIN, MAX).due("back 2", 0).due("forget", 2).argument("back 2")
+                .due("forget", 1).argument("back 1").due("forget", 0).argument("back 0").due("keep", 0)
+                .due("clear", 0).argument("back 0");
     }
 
     static void p14HowManyTimersWaitThen() {
